@@ -2,7 +2,7 @@ import java.util.Random;
 
 /** Promises 1 to 21: random runs of 512 calls, each answer and each state compared with TableModel. */
 final class ModelTest {
-    private static final int RUNS = 1500;
+    private static final int RUNS = 500;
     private static final int CALLS = 512;
     private static final int[] ODD = {Integer.MIN_VALUE, -2, -1, 0, 1, 5, 6, 9, 10, 11, 12, 13, 14, 60, 61,
         Integer.MAX_VALUE};
