@@ -79,6 +79,8 @@ final class LayersTest {
         Setting.lay(x, 0, Setting.MASK, 0);
         Expect.text("promise 14: a MASK takes what was of kind B", Setting.kinds(x, 5), "2 3 4 4 4 4");
 
+        x = Setting.with(Setting.VEIL, 0, Setting.BEAST, 1);
+        Expect.text("promise 14: a VEIL as the first thing", Setting.kinds(x, 5), "4 2");
         x = Setting.with(Setting.TOWER, 0, Setting.VEIL, 1, Setting.BEAST, 2, Setting.MASK, 0);
         Expect.text("promise 14: a VEIL ahead of a MASK", Setting.kinds(x, 2), "3 4 2 4");
         for (int layer = 3; layer <= 5; layer++) {
@@ -176,6 +178,8 @@ final class LayersTest {
         power("a MIRROR", x, 8, 8, 16);
         Setting.lay(x, 1, Setting.VEIL, 0);
         power("a VEIL", x, 0, 0, 8);
+        Expect.same("promise 16: an answer about another layer", x.strengthOf(3, 0), 1);
+        Expect.same("promise 16: does not change the power", x.power(2), 8);
     }
 
     private static void testWrongCalls() {

@@ -10,6 +10,7 @@ final class PlayTest {
         testStrikeWithoutTarget();
         testDeny();
         testDenyWithoutTarget();
+        testDenyFromTheMiddle();
         testCrownWithoutTarget();
         testWrongCalls();
         testPlayEndsPasses();
@@ -126,6 +127,13 @@ final class PlayTest {
         x.play(Setting.STRIKE, 0);
         x.settle(1);
         Expect.text("promise 2: now it leaves", Setting.cards(x), "4");
+
+        x = Setting.with(Setting.BEAST, 0, Setting.FOG, 1, Setting.BANNER, 0, Setting.BANNER, 0);
+        Expect.same("promise 2: strength 5", x.strengthOf(0, 5), 5);
+        x.play(Setting.STRIKE, 0);
+        Expect.same("promise 2: an answer about another layer", x.strengthOf(0, 0), 2);
+        x.settle(1);
+        Expect.text("promise 2: strength 5 stays", Setting.cards(x), "0 3 2 2");
     }
 
     private static void testStrikeWithoutTarget() {
@@ -179,6 +187,30 @@ final class PlayTest {
         x.play(Setting.DENY, 0);
         x.settle(2);
         Expect.text("promise 2: a denied DENY spares the BEAST", Setting.cards(x), "0");
+    }
+
+    /** What lies above a denied card stays what it is. */
+    private static void testDenyFromTheMiddle() {
+        LayeredTable x = Setting.with(Setting.PYRE, 0, Setting.MASK, 1);
+        x.play(Setting.STRIKE, 0);
+        x.play(Setting.STRIKE, 1);
+        x.settle(1);
+        x.play(Setting.DENY, 1);
+        Expect.text("promise 2: a trigger above the target", Setting.stack(x), "13.1>2 10!0 12.1>0");
+        x.settle(1);
+        Expect.text("promise 2: the trigger stays one", Setting.stack(x), "10!0");
+
+        x = Setting.with(Setting.BEAST, 0);
+        x.play(Setting.STRIKE, 0);
+        x.play(Setting.STRIKE, 0);
+        x.play(Setting.DENY, 0);
+        x.play(Setting.DENY, 2);
+        Expect.text("promise 2: two DENYs", Setting.stack(x), "13.0>3 13.2>2 12.1>0 12.0>0");
+        x.settle(1);
+        Expect.text("promise 2: the lowest is denied", Setting.stack(x), "13.2>1 12.1>0");
+        x.settle(1);
+        Expect.text("promise 2: the other, too", Setting.stack(x), "");
+        Expect.text("promise 2: the BEAST stays", Setting.cards(x), "0");
     }
 
     private static void testCrownWithoutTarget() {

@@ -162,6 +162,9 @@ final class StackTest {
         Setting.lay(x, 1, Setting.TOWER, 0);
         Expect.same("promise 18: no BEAST any more", x.settle(60), 1);
         Expect.text("promise 18: nothing leaves", Setting.cards(x), "5 11 4 2 1");
+        x = Setting.with(Setting.BEAST, 0, Setting.ALTAR, 1, Setting.MASK, 2);
+        x.settle(60);
+        Expect.text("promise 18: a BEAST that lies first", Setting.cards(x), "11 5");
     }
 
     private static void testWrongPlaces() {
