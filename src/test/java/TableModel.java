@@ -309,8 +309,8 @@ final class TableModel {
                 for (int card : cards) {
                     has |= thing.card == card;
                 }
-                boolean mayBe = thing.card != 1 || player == turn;
-                if (has && mayBe && thing != entered && looks.get(place).controller == player % 3 && stack.size() < 12) {
+                boolean mayBe = thing != entered && (thing.card != 1 || player == turn);
+                if (has && mayBe && looks.get(place).controller == player % 3 && stack.size() < 12) {
                     stack.add(0, new Entry(thing.card, true, player % 3, null));
                 }
             }
