@@ -47,27 +47,13 @@ final class ObstacleTest {
 
     private static void testTooDear() {
         for (int coins = 0; coins <= 6; coins++) {
-            LayeredTable x = Setting.with(Setting.BEAST, 1);
-            spendDownTo(x, coins);
+            LayeredTable x = Setting.withCoins(coins);
             for (int card = 0; card < 13; card++) {
                 int due = Setting.COST[card] <= coins ? LayeredTable.PLAYABLE : LayeredTable.TOO_DEAR;
                 due("with " + coins + " coins", x, card, 0, due);
             }
             due("with " + coins + " coins", x, 13, 0, coins > 0 ? LayeredTable.NO_TARGET : LayeredTable.TOO_DEAR);
         }
-    }
-
-    /** Player 0 strikes a TIDE's BEAST, which is too strong, until so many coins are left. */
-    private static void spendDownTo(LayeredTable x, int coins) {
-        Setting.lay(x, 1, Setting.TIDE, 0);
-        Setting.lay(x, 1, Setting.BANNER, 0);
-        Setting.reachTurn(x, 0, coins);
-        while (x.coins(0) > coins) {
-            x.play(Setting.STRIKE, 0);
-            x.settle(1);
-        }
-        Expect.same("promise 3: coins", x.coins(0), coins);
-        Expect.text("promise 3: things", Setting.cards(x), "0 4 2");
     }
 
     private static void testTargets() {
@@ -97,18 +83,8 @@ final class ObstacleTest {
         due("any target", x, Setting.BEAST, -7, LayeredTable.PLAYABLE);
     }
 
-    private static LayeredTable fullStack() {
-        LayeredTable x = Setting.with(Setting.BEAST, 0);
-        Setting.reachTurn(x, 2, 9);
-        for (int i = 0; i < 12; i++) {
-            Expect.same("promise 3: entry " + i, x.obstacle(Setting.STRIKE, 0), LayeredTable.PLAYABLE);
-            Expect.same("promise 3: entry " + i, x.play(Setting.STRIKE, 0), i + 1);
-        }
-        return x;
-    }
-
     private static void testFullStack() {
-        LayeredTable x = fullStack();
+        LayeredTable x = Setting.withStrikes(12);
         due("a full stack", x, Setting.STRIKE, 0, LayeredTable.STACK_FULL);
         due("a full stack", x, Setting.DENY, 11, LayeredTable.STACK_FULL);
         x.settle(1);
@@ -116,7 +92,7 @@ final class ObstacleTest {
     }
 
     private static void testFirstReason() {
-        LayeredTable x = fullStack();
+        LayeredTable x = Setting.withStrikes(12);
         due("no target ahead of a full stack", x, Setting.STRIKE, 1, LayeredTable.NO_TARGET);
         due("no target ahead of a full stack", x, Setting.DENY, 12, LayeredTable.NO_TARGET);
         due("not now ahead of a full stack", x, Setting.CROWN, 7, LayeredTable.NOT_NOW);

@@ -18,6 +18,14 @@ final class Setting {
         throw new IllegalStateException("the turn was not reached");
     }
 
+    /** Passes, at most twice, until the player may act. */
+    static void passTo(LayeredTable x, int player) {
+        for (int i = 0; i < 2 && x.acting() != player; i++) {
+            x.pass();
+        }
+        Expect.same("who may act", x.acting(), player);
+    }
+
     static void passTurn(LayeredTable x) {
         x.pass();
         x.pass();
@@ -36,6 +44,49 @@ final class Setting {
         LayeredTable x = new LayeredTable();
         for (int i = 0; i < cardsAndPlayers.length; i += 2) {
             lay(x, cardsAndPlayers[i + 1], cardsAndPlayers[i], 0);
+        }
+        return x;
+    }
+
+    /** Like with, but the triggers have taken effect, too, so that the stack is empty. */
+    static LayeredTable settled(int... cardsAndPlayers) {
+        LayeredTable x = with(cardsAndPlayers);
+        x.settle(60);
+        return x;
+    }
+
+    /** Ten things: nine of one card and a BEAST as the last one, all of them player 0's; the stack is empty. */
+    static LayeredTable fullTable(int card) {
+        LayeredTable x = new LayeredTable();
+        for (int i = 0; i < 9; i++) {
+            lay(x, 0, card, 0);
+            x.settle(60);
+        }
+        lay(x, 0, BEAST, 0);
+        x.settle(60);
+        Expect.same("a full table", x.things(), 10);
+        return x;
+    }
+
+    /** Player 0 has the turn and just so many coins; a BEAST of player 1 is too strong for each STRIKE. */
+    static LayeredTable withCoins(int coins) {
+        LayeredTable x = with(BEAST, 1, TIDE, 1, BANNER, 1);
+        reachTurn(x, 0, coins);
+        while (x.coins(0) > coins) {
+            x.play(STRIKE, 0);
+            x.settle(1);
+        }
+        Expect.same("the coins of player 0", x.coins(0), coins);
+        Expect.text("the things", cards(x), "0 4 2");
+        return x;
+    }
+
+    /** A stack of so many STRIKEs at the first thing, a BEAST; no state in which they hit is of interest. */
+    static LayeredTable withStrikes(int strikes) {
+        LayeredTable x = with(BEAST, 0);
+        reachTurn(x, 2, 9);
+        for (int i = 0; i < strikes; i++) {
+            Expect.same("the stack behind a STRIKE", x.play(STRIKE, 0), i + 1);
         }
         return x;
     }
