@@ -91,6 +91,12 @@ final class Setting {
         return x;
     }
 
+    /** Plays a spell and lets it, but none of its triggers, take effect. */
+    static void cast(LayeredTable x, int card, int target) {
+        x.play(card, target);
+        x.settle(1);
+    }
+
     static String cards(LayeredTable x) {
         StringBuilder text = new StringBuilder();
         for (int place = 0; place < x.things(); place++) {

@@ -2,8 +2,8 @@ import java.util.function.Consumer;
 import java.util.function.Supplier;
 
 /**
- * Two tables in the same state: one gets calls that must change nothing, and then both go on alike. This tells also what
- * no call answers at once: how many players have passed, and which states are remembered.
+ * Two tables in the same state: one gets calls that must change nothing, and then both go on alike. This tells also
+ * what no call answers at once: how many players have passed, and which states are remembered.
  */
 final class Twins {
     private static final int PASSES = 9;
